@@ -31,6 +31,8 @@ public final class DateSpans {
     private static final int STARTS = 146097;
     private static final long NOT_A_NUMBER = 0x7ff8000000000000L;
     private static final long INFINITE = 0x7ff0000000000000L;
+    private static final long SIGN_BIT = 0x8000000000000000L;
+    private static final int FLOAT_SIGN_BIT = 0x80000000;
 
     private final Slots now = new Slots();
     private final Slots kept = new Slots();
@@ -754,7 +756,7 @@ public final class DateSpans {
         long length = lengthOf(s);
         long by = lengthOf(t);
         if (by == 0) {
-            // A length is never -0.0: its sign alone is that of what it is divided to.
+            // No length is -0.0, so what is divided alone gives the sign.
             return length == 0 ? NOT_A_NUMBER : signBit(length) | INFINITE;
         }
         if (length == 0) {
@@ -792,7 +794,7 @@ public final class DateSpans {
         double size = years < 0.0f ? -years : years;
         int power = powerOf(size);
         int bits = power + 127 << 23 | (int) fractionOf(size, power, 23);
-        return years < 0.0f ? bits | Integer.MIN_VALUE : bits;
+        return years < 0.0f ? bits | FLOAT_SIGN_BIT : bits;
     }
 
     /** The length as a whole number: below 2 to the 53rd, so as a double it is the same. */
@@ -801,7 +803,7 @@ public final class DateSpans {
     }
 
     private static long signBit(long number) {
-        return number < 0 ? Long.MIN_VALUE : 0L;
+        return number < 0 ? SIGN_BIT : 0L;
     }
 
     /** The bits of a double that is neither 0 nor too small or too great for its usual form. */
@@ -809,7 +811,7 @@ public final class DateSpans {
         double size = number < 0.0 ? -number : number;
         int power = powerOf(size);
         long bits = (long) (power + 1023) << 52 | fractionOf(size, power, 52);
-        return number < 0.0 ? bits | Long.MIN_VALUE : bits;
+        return number < 0.0 ? bits | SIGN_BIT : bits;
     }
 
     /** The power of two that is not more than a size above 0, while the next one is. */
@@ -1548,7 +1550,7 @@ public final class DateSpans {
 
     /** The fewest and the most seconds of those met, where first, and how many unlike ones. */
     private static final class Ways {
-        private final long[] unlike = new long[64];
+        private final long[] unlike = new long[16];
         private int many;
         private boolean empty;
         private long fewest;
@@ -1574,7 +1576,7 @@ public final class DateSpans {
             empty = false;
         }
 
-        /** The same, and unlike seconds are counted: months last in some ten ways at the most. */
+        /** The same, and unlike seconds are counted: a span lasts in seven ways at the most. */
         void meet(int where, long seconds) {
             weigh(where, seconds);
             for (int k = 0; k < many && k < unlike.length; k++) {

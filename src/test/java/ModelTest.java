@@ -23,10 +23,10 @@ public final class ModelTest {
     public static void main(String[] args) {
         ModelTest test = new ModelTest(20240229);
         test.allCalendar();
-        for (int run = 0; run < 6000 && test.wrong < 20; run++) {
+        for (int run = 0; run < 4000 && test.wrong < 20; run++) {
             test.run(run);
         }
-        for (int k = 0; k < 250 && test.wrong < 20; k++) {
+        for (int k = 0; k < 160 && test.wrong < 20; k++) {
             test.sweep();
         }
         System.out.println(test.wrong == 0 ? "as the model" : test.wrong + " answers unlike the model");
@@ -47,15 +47,13 @@ public final class ModelTest {
     private void allCalendar() {
         java.time.LocalDate date = java.time.LocalDate.of(1, 1, 1);
         for (int day = 0; day <= Model.LAST && wrong < 20; day++) {
-            if (day % 400 == 0) {
+            if (day % 200 == 0) {
                 real = new DateSpans();
             }
             int number = date.getYear() * 10000 + date.getMonthValue() * 100 + date.getDayOfMonth();
-            call = "day " + day;
+            call = "of the calendar";
             same("date", real.date(day), number);
-            if (day % 3 == 0 || date.getDayOfMonth() > 27) {
-                same("day", new DateSpans().day(number), day);
-            }
+            same("day", real.day(number), day);
             date = date.plusDays(1);
         }
     }

@@ -110,8 +110,10 @@ public final class MomentsTest {
         reads("1900-02-28T23:00:00", 693653, 82800);
         reads("2023-04-30T19:09:59", 738639, 68999);
         reads("2024-10-09T20:00:00", 739167, 72000);
-        // what it was before the time is none of the new one
+        // of what was there before, and of what was read before, nothing is left
         DateSpans x = new DateSpans();
+        Due.type(x, "2024-02-28T12:30:05");
+        Due.same("moment", x.moment(5), LEAP_DAY - 1);
         x.sets(6, 9, 9);
         Due.type(x, "2024-02-29");
         Due.same("moment", x.moment(6), LEAP_DAY);
@@ -224,6 +226,14 @@ public final class MomentsTest {
         readsSpan("2w", 0, 14, 0);
         readsSpan("-1m1s", -1, 0, 1);
         readsSpan("-21m", -21, 0, 0);
+        DateSpans x = new DateSpans();
+        Due.type(x, "1y2m3w4d5h6i7s");
+        Due.same("span", x.span(1), 14);
+        Due.type(x, "1d");
+        Due.same("span of another text", x.span(2), 0);
+        Due.span(x, 2, 0, 1, 0);
+        Due.row(x, 0, 1, 0);
+        Due.span(x, 1, 14, 25, 18367);
     }
 
     private static void wrongSpan(String text, int at) {
@@ -320,6 +330,22 @@ public final class MomentsTest {
         asks(730484, 0, 730484, 0, 20001231, 6, 366, 31, 1);
         asks(693653, 1, 693653, 1, 19000228, 2, 59, 28, 0);
         asks(738639, 0, 738639, 0, 20230430, 6, 120, 30, 0);
+        int[] lengths = {31, 28, 31, 30, 31, 30, 31, 31, 30, 31, 30, 31};
+        DateSpans x = new DateSpans();
+        int day = x.day(20230101);
+        for (int month = 1; month <= 12; month++) {
+            x.sets(0, day, 0);
+            Due.same("length of month " + month, x.momentIs(0, 5), lengths[month - 1]);
+            day += lengths[month - 1];
+            Due.same("date of its last day", x.date(day - 1), 20230000 + 100 * month + lengths[month - 1]);
+        }
+        int[] years = {4, 100, 400, 1900, 1996, 1999, 2000, 2004, 2100, 2400, 9996, 9999};
+        int[] leap = {1, 0, 1, 0, 1, 0, 1, 1, 0, 1, 1, 0};
+        for (int k = 0; k < years.length; k++) {
+            x.sets(0, x.day(years[k] * 10000 + 1231), 0);
+            Due.same("leap " + years[k], x.momentIs(0, 6), leap[k]);
+            Due.same("days of " + years[k], x.momentIs(0, 4), 365 + leap[k]);
+        }
     }
 
     private static void spanIs() {
