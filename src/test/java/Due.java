@@ -1,3 +1,5 @@
+import java.time.LocalDate;
+import java.time.temporal.ChronoUnit;
 import java.util.NoSuchElementException;
 
 /** Counts the answers that are not as they are due, and prints them. */
@@ -10,6 +12,16 @@ final class Due {
 
     static void promise(int number, String name) {
         promise = "promise " + number + " (" + name + ")";
+    }
+
+    /** A sentence of the document, in its own words: number 0 is "Terms" 1 or 2. */
+    static void sentence(int number, String words) {
+        promise = (number == 0 ? "Terms" : "promise " + number) + ", \"" + words + "\"";
+    }
+
+    /** The number of a date's day, as the Java library counts days. */
+    static int day(int year, int month, int dayOfMonth) {
+        return (int) ChronoUnit.DAYS.between(LocalDate.of(1, 1, 1), LocalDate.of(year, month, dayOfMonth));
     }
 
     static void same(String call, long got, long want) {

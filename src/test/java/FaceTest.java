@@ -7,6 +7,7 @@ import java.nio.charset.StandardCharsets;
 import java.nio.file.Files;
 import java.nio.file.Path;
 import java.util.Arrays;
+import java.util.NoSuchElementException;
 import java.util.TreeSet;
 import java.util.regex.Matcher;
 import java.util.regex.Pattern;
@@ -35,6 +36,7 @@ public final class FaceTest {
         face();
         names();
         source(Path.of(args.length > 0 ? args[0] : "src/main/java/DateSpans.java"));
+        printed(Path.of(args.length > 1 ? args[1] : "../shared/DOC.md"));
         room();
         Due.ends("FaceTest");
     }
@@ -47,6 +49,9 @@ public final class FaceTest {
         for (Method m : type.getDeclaredMethods()) {
             if (!Modifier.isPrivate(m.getModifiers())) {
                 Due.yes(m + " is public alone", m.getModifiers() == Modifier.PUBLIC);
+                Class<?>[] thrown = m.getExceptionTypes();
+                Due.yes(m + " throws what the face says", m.getName().equals("row")
+                        ? thrown.length == 1 && thrown[0] == NoSuchElementException.class : thrown.length == 0);
                 methods.add(m.getReturnType() + " " + m.getName() + "(" + Arrays.stream(m.getParameterTypes())
                         .map(Class::getName).collect(Collectors.joining(",")) + ")");
             }
@@ -67,6 +72,21 @@ public final class FaceTest {
                     && !Modifier.isProtected(how));
         }
         Due.yes("some twelve classes", type.getDeclaredClasses().length <= 11);
+    }
+
+    /** The face here is the one that the document's code block prints, call by call. */
+    private static void printed(Path document) throws Exception {
+        Due.promise(0, "the public face as the document's code block prints it");
+        String block = Files.readString(document, StandardCharsets.UTF_8).split("```java")[1].split("```")[0];
+        Due.yes("NONE", block.contains("public static final int NONE = -1;"));
+        TreeSet<String> printed = new TreeSet<>();
+        Matcher calls = Pattern.compile("public (int|long|boolean) (\\w+)\\(([^)]*)\\)").matcher(block);
+        while (calls.find()) {
+            String numbers = calls.group(3).replaceAll("(\\w+) \\w+", "$1").replace(", ", ",");
+            printed.add(calls.group(1) + " " + calls.group(2) + "(" + numbers + ")");
+        }
+        TreeSet<String> due = new TreeSet<>(Arrays.asList(FACE.split("(?<=\\)) ")));
+        Due.yes("calls: " + printed, printed.equals(due));
     }
 
     private static void names() {
