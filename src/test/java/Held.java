@@ -26,6 +26,22 @@ final class Held {
         signs = x.count(3);
     }
 
+    /** All slots become moments and spans that are unlike each other, and unlike those of another number. */
+    static void fill(DateSpans x, int by) {
+        for (int i = 0; i < 8; i++) {
+            x.sets(i, 100 * i + by, 10 * i + by);
+            x.parts(i, i + by, -i - by, 1000 * i + by);
+        }
+    }
+
+    /** All slots are as fill() makes them. */
+    static void isFilled(DateSpans x, int by) {
+        for (int i = 0; i < 8; i++) {
+            Due.moment(x, i, 100 * i + by, 10 * i + by);
+            Due.span(x, i, i + by, -i - by, 1000 * i + by);
+        }
+    }
+
     /** An object in which all there is to hold is something: slots, other slots kept, a row, a text. */
     static DateSpans filled() {
         DateSpans x = new DateSpans();

@@ -197,41 +197,27 @@ public final class ShareEdgesTest {
 
     // ---- promises 47 and 48
 
-    private static void fill(DateSpans x, int by) {
-        for (int i = 0; i < 8; i++) {
-            x.sets(i, 100 * i + by, 10 * i + by);
-            x.parts(i, i + by, -i - by, 1000 * i + by);
-        }
-    }
-
-    private static void isFilled(DateSpans x, int by) {
-        for (int i = 0; i < 8; i++) {
-            Due.moment(x, i, 100 * i + by, 10 * i + by);
-            Due.span(x, i, i + by, -i - by, 1000 * i + by);
-        }
-    }
-
     private static void keeps() {
         Due.sentence(47, "All SLOTS are kept: true");
         DateSpans x = new DateSpans();
-        fill(x, 1);
+        Held.fill(x, 1);
         Due.yes("keeps()", x.keeps());
-        isFilled(x, 1);
-        fill(x, 2);
-        isFilled(x, 2);
+        Held.isFilled(x, 1);
+        Held.fill(x, 2);
+        Held.isFilled(x, 2);
         Due.yes("back()", x.back());
-        isFilled(x, 1);
+        Held.isFilled(x, 1);
         Due.sentence(47, "in place of what was");
         x = new DateSpans();
-        fill(x, 3);
+        Held.fill(x, 3);
         Due.yes("keeps()", x.keeps());
-        fill(x, 4);
+        Held.fill(x, 4);
         Due.yes("keeps()", x.keeps());
-        fill(x, 5);
+        Held.fill(x, 5);
         Due.yes("back()", x.back());
-        isFilled(x, 4);
+        Held.isFilled(x, 4);
         Due.yes("back()", x.back());
-        isFilled(x, 4);
+        Held.isFilled(x, 4);
     }
 
     private static void keepsNeither() {
@@ -253,16 +239,16 @@ public final class ShareEdgesTest {
         Due.sentence(48, "All SLOTS are as they were kept: true: one slot after the other");
         for (int i = 0; i < 8; i++) {
             DateSpans x = new DateSpans();
-            fill(x, 1);
+            Held.fill(x, 1);
             x.keeps();
             x.sets(i, 5, 5);
             x.parts(i, 5, 5, 5);
             Due.yes("back()", x.back());
-            isFilled(x, 1);
+            Held.isFilled(x, 1);
         }
         Due.sentence(48, "false: nothing is kept");
         DateSpans x = new DateSpans();
-        fill(x, 1);
+        Held.fill(x, 1);
         x.sorts();
         Due.type(x, "1y");
         Held held = Held.of(x);
@@ -276,20 +262,20 @@ public final class ShareEdgesTest {
         Due.sentence(48, "as they were kept: what is changed behind keeps(), or behind back(), is not kept");
         DateSpans x = new DateSpans();
         Due.yes("keeps() of SLOTS as at first", x.keeps());
-        fill(x, 1);
+        Held.fill(x, 1);
         Due.yes("back()", x.back());
         Due.same("count(0)", x.count(0), 0);
         Due.same("count(1)", x.count(1), 0);
-        fill(x, 2);
+        Held.fill(x, 2);
         Due.yes("back() again", x.back());
         Due.same("count(0)", x.count(0), 0);
         Due.same("count(1)", x.count(1), 0);
-        fill(x, 3);
+        Held.fill(x, 3);
         Due.yes("keeps()", x.keeps());
         x.turn(3, 3);
         x.floors(3, 5, 4);
         Due.yes("back()", x.back());
-        isFilled(x, 3);
+        Held.isFilled(x, 3);
     }
 
     // ---- promise 49

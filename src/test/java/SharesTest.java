@@ -225,37 +225,23 @@ public final class SharesTest {
         }
     }
 
-    private static void fill(DateSpans x, int by) {
-        for (int i = 0; i < 8; i++) {
-            x.sets(i, 100 * i + by, 10 * i + by);
-            x.parts(i, i + by, -i - by, 1000 * i + by);
-        }
-    }
-
-    private static void isFilled(DateSpans x, int by) {
-        for (int i = 0; i < 8; i++) {
-            Due.moment(x, i, 100 * i + by, 10 * i + by);
-            Due.span(x, i, i + by, -i - by, 1000 * i + by);
-        }
-    }
-
     private static void keeps() {
         Due.promise(47, "keeps");
         DateSpans x = new DateSpans();
-        fill(x, 1);
+        Held.fill(x, 1);
         x.week(0);
         x.sign(0x31793264);
         Due.yes("keeps()", x.keeps());
-        isFilled(x, 1);
-        fill(x, 2);
-        isFilled(x, 2);
+        Held.isFilled(x, 1);
+        Held.fill(x, 2);
+        Held.isFilled(x, 2);
         Due.yes("back()", x.back());
-        isFilled(x, 1);
-        fill(x, 3);
+        Held.isFilled(x, 1);
+        Held.fill(x, 3);
         Due.yes("keeps() in place of what was", x.keeps());
-        fill(x, 4);
+        Held.fill(x, 4);
         Due.yes("back()", x.back());
-        isFilled(x, 3);
+        Held.isFilled(x, 3);
         // the row and the text are no slots
         Due.row(x, 1);
         Due.same("count(3)", x.count(3), 4);
@@ -267,16 +253,16 @@ public final class SharesTest {
     private static void back() {
         Due.promise(48, "back");
         DateSpans x = new DateSpans();
-        fill(x, 5);
+        Held.fill(x, 5);
         Due.no("back() with nothing kept", x.back());
-        isFilled(x, 5);
+        Held.isFilled(x, 5);
         DateSpans y = new DateSpans();
         Due.yes("keeps() of nothing", y.keeps());
-        fill(y, 1);
+        Held.fill(y, 1);
         Due.yes("back()", y.back());
         Due.same("count(0)", y.count(0), 0);
         Due.same("count(1)", y.count(1), 0);
-        fill(y, 2);
+        Held.fill(y, 2);
         Due.yes("back() again", y.back());
         Due.same("count(0)", y.count(0), 0);
         Due.no("back() of another object", x.back());
